@@ -588,17 +588,14 @@ public final class SilkWord {
             super(place, loses, ear);
         }
 
-        @Override
         int kind() {
             return COURTIER;
         }
 
-        @Override
         int dares() {
             return super.dares() + 1;
         }
 
-        @Override
         int told(Trace trace) {
             trace.leave(2);
             return super.told(trace) + 100;
@@ -610,24 +607,20 @@ public final class SilkWord {
             super(place, loses, ear);
         }
 
-        @Override
         int kind() {
             return TAILOR;
         }
 
-        @Override
         int dares() {
             return 2 * super.dares();
         }
 
-        @Override
         int told(Trace trace) {
             trace.leave(3);
             int asCourtier = super.told(trace);
             return asCourtier + toldAsSubject(trace);
         }
 
-        @Override
         int bowedTo(Trace trace) {
             trace.leave(5);
             return 90;
@@ -720,11 +713,11 @@ public final class SilkWord {
         }
 
         int inEar(int p) {
-            return has(p) ? ears[p] : 0;
+            return p >= 0 && p < size ? ears[p] : 0;
         }
 
         int dares(int p) {
-            return has(p) ? dared[p] : 0;
+            return p >= 0 && p < size ? dared[p] : 0;
         }
     }
 
@@ -820,8 +813,8 @@ public final class SilkWord {
         int reaching(int p, int inEar, int day) {
             int count = 0;
             for (int k = 0; k < words; k++) {
-                if (days[k] <= day && isIn(inEar, places[k])) {
-                    count++;
+                if (days[k] <= day) {
+                    count += inEar >> places[k] & 1;
                 }
             }
             for (int k = 0; k < whisperCount; k++) {
@@ -864,10 +857,11 @@ public final class SilkWord {
         }
 
         private int speaking(Street people, Talk talk, int soFar) {
+            int may = people.everyone() & ~soFar & ~talk.bribedSet();
             int set = 0;
             for (int p = 0; p < people.size() && p < reached.length; p++) {
-                boolean may = !isIn(soFar, p) && !talk.bribed(p);
-                if (may && Integer.bitCount(soFar & people.inEar(p)) + reached[p] >= people.dares(p)) {
+                int held = Integer.bitCount(soFar & people.inEar(p)) + reached[p];
+                if (isIn(may, p) && held >= people.dares(p)) {
                     set |= 1 << p;
                 }
             }
