@@ -114,6 +114,10 @@ public final class SilenceTest {
         y.word(1, 1);
         y.word(0, 2);
         DUE.row("worth: the others stay", y::worth, 101, 101, 101, 101);
+        SilkWord late = Due.streetOf("n;s10;s10;s12;s11");
+        late.word(0, 0);
+        late.word(1, 39);
+        DUE.row("worth: the others keep their days", late::worth, 102, 101);
     }
 
     private static SilkWord fiveAsked() {
