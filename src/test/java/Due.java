@@ -1,6 +1,7 @@
 /** Counts the answers of one test that are not the ones that are due. */
 final class Due {
     private final String test;
+    private String under = "";
     private int checked;
     private int wrong;
 
@@ -12,7 +13,7 @@ final class Due {
         checked++;
         if (got != want) {
             wrong++;
-            System.out.println(test + ": " + call + " answered " + got + ", due is " + want);
+            System.out.println(test + ": " + under + call + " answered " + got + ", due is " + want);
         }
     }
 
@@ -29,6 +30,22 @@ final class Due {
         for (int k = 0; k < wants.length; k++) {
             is(call + " for " + k, asked.answer(k), wants[k]);
         }
+    }
+
+    /** The same is due of all. */
+    void all(String calls, long want, long... got) {
+        for (int k = 0; k < got.length; k++) {
+            is(calls + " (the one numbered " + k + ")", got[k], want);
+        }
+    }
+
+    /** What stands ahead of the lines that tell a wrong answer from now on. */
+    void under(String words) {
+        under = words;
+    }
+
+    int checked() {
+        return checked;
     }
 
     int wrong() {
