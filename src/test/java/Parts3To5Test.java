@@ -248,6 +248,7 @@ public final class Parts3To5Test {
     private static void worth() {
         SilkWord x = with("n;s10;s10;s12;s11", y -> y.word(0, 0), y -> y.word(1, 39));
         DUE.row("WORTH, the others on their DAYS", x::worth, 102, 101, -1);
+        DUE.row("WORTH, the others at their PLACES", with("n;s10;s10;s11", y -> y.word(0, 0), y -> y.word(1, 0))::worth, 101, 102);
         DUE.row("of one of two alike", with("n;s10;s50", y -> y.word(0, 0), y -> y.word(0, 0))::worth, 100, 100);
         DUE.row("of two, both needed", with("n;s20;s50", y -> y.word(0, 0), y -> y.word(0, 9))::worth, 101, 101);
         DUE.row("all of seven", with(CHAIN, y -> y.word(3, 0))::worth, 107);
