@@ -26,6 +26,7 @@ public final class FaceTest {
     public static void main(String[] args) throws Exception {
         constants();
         methods();
+        faceOfTheDocument();
         membersBesideTheFace();
         namesOfTheFaceAreTakenOnce();
         classesInside();
@@ -61,6 +62,22 @@ public final class FaceTest {
             }
         }
         DUE.isTrue("the methods are those of the document: " + there, there.equals(new TreeSet<>(Arrays.asList(FACE))));
+    }
+
+    /** The list above is the document's own, in its order. */
+    private static void faceOfTheDocument() throws Exception {
+        Path document = Path.of("../shared/DOC.md");
+        if (!Files.exists(document)) {
+            System.out.println(document + " is not there: its face is not looked at");
+            return;
+        }
+        List<String> told = new ArrayList<>();
+        Matcher line = Pattern.compile("(?m)^    public (int|long) (\\w+)\\(([^)]*)\\);$").matcher(Files.readString(document));
+        while (line.find()) {
+            String takes = line.group(3).replaceAll("(int|long|boolean) \\w+", "$1");
+            told.add(line.group(1) + " " + line.group(2) + "(" + takes + ")");
+        }
+        DUE.isTrue("the document's face is " + told, told.equals(Arrays.asList(FACE)));
     }
 
     private static void membersBesideTheFace() {
